@@ -307,8 +307,9 @@ public final class PackedPages {
         if (!isOrder(i) || j < 0 || what < 0) {
             return NONE;
         }
-        int at = Image.entryPlace(disk.row, Image.pageAt(disk.row, i), j);
-        if (at == NONE) {
+        int number = Image.pageAt(disk.row, i);
+        int at = Image.placeBehind(disk.row, number, j);
+        if (j >= BLOCK_SIZE || at >= Image.logEnd(disk.row, number)) {
             return NONE;
         }
         int head = disk.row[at];
@@ -654,9 +655,14 @@ public final class PackedPages {
         }
 
         static int logEnd(int[] row, int page) {
+            return placeBehind(row, page, BLOCK_SIZE);
+        }
+
+        /** The place behind so many entries of a page's log; its end, if there are not so many. */
+        static int placeBehind(int[] row, int page, int entries) {
             int at = logStart(row, page);
             int limit = (page + 1) * BLOCK_SIZE;
-            for (int i = 0; i < BLOCK_SIZE; i++) {
+            for (int i = 0; i < BLOCK_SIZE && i < entries; i++) {
                 int size = Entry.sizeAt(row, at, limit);
                 if (size == 0) {
                     break;
@@ -670,27 +676,11 @@ public final class PackedPages {
             int at = logStart(row, page);
             int limit = (page + 1) * BLOCK_SIZE;
             int entries = 0;
-            while (entries < BLOCK_SIZE) {
-                int size = Entry.sizeAt(row, at, limit);
-                if (size == 0) {
-                    break;
-                }
-                at += size;
+            while (entries < BLOCK_SIZE && Entry.sizeAt(row, at, limit) > 0) {
+                at += Entry.sizeBy(row[at]);
                 entries++;
             }
             return entries;
-        }
-
-        /** Where the j-th entry of a page's log begins; NONE, if there is none. */
-        static int entryPlace(int[] row, int page, int j) {
-            if (j < 0 || j >= entryCount(row, page)) {
-                return NONE;
-            }
-            int at = logStart(row, page);
-            for (int i = 0; i < j; i++) {
-                at += Entry.sizeBy(row[at]);
-            }
-            return at;
         }
     }
 
@@ -731,6 +721,7 @@ public final class PackedPages {
         int packRow(int[] row, int length, int filter) {
             int n = Math.min(length, Math.min(row.length, TAPE_SIZE));
             filterRow(row, n, filter);
+            Arrays.fill(latestOf, NONE);
             linkSame(n);
             int size = 0;
             int at = 0;
@@ -770,7 +761,6 @@ public final class PackedPages {
         }
 
         private void linkSame(int n) {
-            Arrays.fill(latestOf, NONE);
             for (int i = 0; i < n; i++) {
                 sameAhead[i] = latestOf[filtered[i]];
                 latestOf[filtered[i]] = i;
