@@ -1,102 +1,7 @@
 import java.util.function.Consumer;
 
 /** Each promise of the document by itself: ordinary inputs, the edges it names, wrong inputs. */
-public final class PromiseTest {
-    private static int wrong = 0;
-    private static int promise = 0;
-    private static int checks = 0;
-
-    private static void due(String call, int got, int want) {
-        checks++;
-        if (got != want) {
-            wrong++;
-            System.out.println("promise " + promise + ": " + call + " answered " + got + ", due is " + want);
-        }
-    }
-
-    /** Puts a row of bytes on the tape, in place of all there was. */
-    private static void lay(PackedPages x, int... row) {
-        x.end(0);
-        for (int from = 0; from < row.length; from += 20) {
-            int[] n = new int[5];
-            for (int k = 0; k < 20; k++) n[k / 4] = n[k / 4] << 8 | (from + k < row.length ? row[from + k] : 0);
-            x.feed(n[0], n[1], n[2], n[3], n[4]);
-        }
-        x.end(row.length);
-    }
-
-    private static void dueTape(PackedPages x, int... row) {
-        due("count(12)", x.count(12), row.length);
-        for (int i = 0; i < row.length; i++) due("tape(" + i + ")", x.tape(i), row[i]);
-    }
-
-    private static void dueValue(PackedPages x, int key, int... row) {
-        due("value(" + key + ", 0)", x.value(key, 0), row.length);
-        for (int i = 0; i < row.length; i++) due("value(" + key + ", " + (2 + i) + ")", x.value(key, 2 + i), row[i]);
-    }
-
-    private static void dueBlock(PackedPages x, int page, int from, int... row) {
-        for (int i = 0; i < row.length; i++) due("block(" + page + ", " + (from + i) + ")", x.block(page, from + i), row[i]);
-    }
-
-    private static int put(PackedPages x, int key, int... row) {
-        lay(x, row);
-        return x.put(key);
-    }
-
-    /** Bytes that do not pack, other ones for each key. */
-    private static int[] rough(int key) {
-        int[] row = new int[8];
-        int state = key * 7919 + 12345;
-        for (int i = 0; i < 8; i++) {
-            state = state * 1103515245 + 12345;
-            row[i] = state >>> 16 & 255;
-        }
-        return row;
-    }
-
-    private static int putRough(PackedPages x, int key) { return put(x, key, rough(key)); }
-
-    private static int putSmooth(PackedPages x, int key) { return put(x, key, 7, 7, 7, 7, 7, 7, 7, 7); }
-
-    private static int[] repeated(int b, int n) {
-        int[] row = new int[n];
-        java.util.Arrays.fill(row, b);
-        return row;
-    }
-
-    /** A store that is down, with one record of key 5. */
-    private static PackedPages downStore() {
-        PackedPages x = new PackedPages();
-        put(x, 5, 1, 2);
-        x.fuse(0);
-        x.erase(5);
-        return x;
-    }
-
-    /** Two pages: 0 with the keys 0, 10 .. 50, and 1 from 60 on. */
-    private static PackedPages twoPages() {
-        PackedPages x = new PackedPages();
-        for (int key = 0; key < 120; key += 10) putSmooth(x, key);
-        due("count(1)", x.count(1), 1);
-        due("put(120)", putSmooth(x, 120), 11);
-        return x;
-    }
-
-    /** Ten pages in use, none with room for a rough record more. */
-    private static PackedPages crowded() {
-        PackedPages x = new PackedPages();
-        x.terms(1, 16);
-        x.terms(2, 100);
-        int key = 0;
-        for (int i = 0; i < 250; i++) {
-            key = (key + 101) % 256;
-            if (putRough(x, key) == -5) break;
-        }
-        due("count(1)", x.count(1), 10);
-        due("status()", x.status(), -5);
-        return x;
-    }
+public final class PromiseTest extends Stores {
 
     private static void newObject() {
         PackedPages x = new PackedPages();
@@ -264,12 +169,7 @@ public final class PromiseTest {
         for (int i = 0; i < 131; i++) farther[i] = i < 128 ? i : i - 128;
         lay(x, farther);
         due("pack(0), d would be 128", x.pack(0), 133);
-        int[] all = new int[400];
-        int state = 1;
-        for (int i = 0; i < 400; i++) {
-            state = state * 1103515245 + 12345;
-            all[i] = state >>> 16 & 255;
-        }
+        int[] all = roughRow(400);
         lay(x, all);
         due("pack(0), too long", x.pack(0), -5);
         due("status()", x.status(), -5);
@@ -791,12 +691,6 @@ public final class PromiseTest {
         due("page(1, 6)", x.page(1, 6) > 0 ? 1 : 0, 1);
     }
 
-    private static int[] records(PackedPages x) {
-        int[] all = new int[256 * 9];
-        for (int key = 0; key < 256; key++) for (int k = 0; k < 9; k++) all[key * 9 + k] = x.value(key, k == 0 ? 0 : 1 + k);
-        return all;
-    }
-
     private static void recovering() {
         PackedPages x = new PackedPages();
         due("recover(), not down", x.recover(), -3);
@@ -1286,11 +1180,10 @@ public final class PromiseTest {
             PromiseTest::nextKey, PromiseTest::pageOf, PromiseTest::packingOf, PromiseTest::entryOf, PromiseTest::behindSome,
             PromiseTest::wouldBe, PromiseTest::blockOf, PromiseTest::directoryOf, PromiseTest::journalOf, PromiseTest::counting,
             PromiseTest::statusOf};
-        for (Runnable test : promises) {
-            promise++;
-            test.run();
+        for (int i = 0; i < promises.length; i++) {
+            about("promise " + (i + 1));
+            promises[i].run();
         }
-        System.out.println(promise + " promises, " + checks + " answers, " + wrong + " not as due");
-        if (wrong != 0) System.exit(1);
+        finish(promises.length + " promises");
     }
 }
