@@ -1193,7 +1193,24 @@ public final class DiskBoundaryTest extends Stores {
         due("recover()", x.recover(), 0);
         dueDisk("behind recover()", x, cut);
         for (int k = 0; k < 661; k++) due("as it was, byte " + k, cut[k], before[k]);
+        recoverNoBlock();
         recoverCutOff();
+    }
+
+    /** A page that goes tells no BLOCK anew: the DIRECTORY alone is in the JOURNAL. */
+    private static void recoverNoBlock() {
+        PackedPages whole = oneInTheLast();
+        due("erase(200)", whole.erase(200), 2);
+        int[] after = disk(whole);
+        for (int n = 5; n < 9; n++) {
+            PackedPages x = oneInTheLast();
+            x.fuse(n);
+            due("erase(200), cut off", x.erase(200), -7);
+            due("journal(0)", x.journal(0), 1);
+            due("journal(1)", x.journal(1), 0);
+            due("recover()", x.recover(), 4);
+            dueDisk("behind recover()", x, after);
+        }
     }
 
     private static void recoverCutOff() {
@@ -1371,6 +1388,14 @@ public final class DiskBoundaryTest extends Stores {
         dueHeld(x, 9, 0, 2);
         x.fetch(6);
         dueHeld(x, 9, 0, 2, 1);
+        for (int frames = 1; frames <= 4; frames++) {
+            PackedPages y = oneInTheLast();
+            y.terms(4, frames);
+            y.fetch(0);
+            due("erase(200), the page goes", y.erase(200), 2);
+            due("count(7)", y.count(7), frames == 1 ? 0 : 1);
+            due("page(0, 9)", y.page(0, 9), frames == 1 ? 0 : 1);
+        }
     }
 
     private static void noneBehind() {

@@ -146,6 +146,12 @@ public final class PromiseBoundaryTest extends Stores {
         duePack(-1, row(192, 128, 192, 64, 128, 192, 128), 3, 192, 64, 64, 128, 128, 4);
         duePack(-1, row(131, 129, 131, 129, 131), 1, 131, 129, 128, 2);
         duePack(-1, row(9, 1, 10, 2, 20, 3, 30, 4, 40), 4, 9, 1, 1, 1, 10, 129, 2);
+        PackedPages x = new PackedPages();
+        lay(x, 9, 1, 10, 2, 20, 3, 30, 4, 40);
+        due("pack(-1), by 3", x.pack(-1), 8);
+        lay(x, 1, 2, 9);
+        due("pack(-1), by 0", x.pack(-1), 4);
+        dueTape(x, 2, 1, 2, 9);
     }
 
     private static void packTooLong() {

@@ -488,9 +488,17 @@ public final class TermsBoundaryTest extends Stores {
         dueShape(0, row(1, 2, 3, 128, 2), 2, 2, 3, 2);
         dueShape(1, row(5, 250, 13, 251, 1, 127, 0, 128, 3), 250, 2, 3, 130, 130, 131, 2, 2);
         dueShape(1, row(1, 255, 4, 128, 2), 255, 2, 6, 5);
-        PackedPages none = new PackedPages();
-        due("compact()", none.compact(), 1);
-        dueBlock(none, 0, 0, 0, 0, 0);
+        PackedPages one = new PackedPages();
+        put(one, 9, 1, 10, 2, 20, 3, 30, 4, 40);
+        one.compact();
+        due("page(0, 4)", one.page(0, 4), 3);
+        put(one, 9, 1, 2, 9);
+        one.compact();
+        due("page(0, 4), whatever it was", one.page(0, 4), 0);
+        one.undo();
+        one.erase(9);
+        due("compact(), none", one.compact(), 1);
+        dueBlock(one, 0, 0, 0, 0, 0);
     }
 
     // ---- to unpack
