@@ -60,6 +60,7 @@ public final class DiskBoundaryTest extends Stores {
         due("count(0)", x.count(0), 5);
         due("behind(0, 7, -1)", x.behind(0, 7, -1), 5);
         due("behind(0, 8, -1)", x.behind(0, 8, -1), -1);
+        due("a key more is spread", put(longestLog(), 231), 1);
         PackedPages y = new PackedPages();
         put(y, 0, 0, 0);
         due("bytes of 0 in an entry end nothing", y.page(0, 7), 4);
@@ -86,7 +87,11 @@ public final class DiskBoundaryTest extends Stores {
     private static void entriesErase() {
         PackedPages x = new PackedPages();
         put(x, 1, 1);
-        for (int n = 1; n < 16; n++) due("erase with n " + n, group(x, joined(new int[] {0x20 + n, 1}, repeated(1, n))), -6);
+        for (int n = 1; n < 16; n++) {
+            due("erase with n " + n, group(x, joined(new int[] {0x20 + n, 1}, repeated(1, n))), -6);
+            due("erase with n " + n + ", no byte behind it", group(x, 0x20 + n, 1), -6);
+            due("flaw()", x.flaw(), 0);
+        }
         due("erase, its key missing", group(x, 0x20), -6);
         due("erase", group(x, 0x20, 1), 1);
         due("count(0)", x.count(0), 0);
@@ -98,7 +103,11 @@ public final class DiskBoundaryTest extends Stores {
         due("alter n 0", group(x, 0x30, 1, 100), 1);
         due("alter n 7", group(x, 0x37, 1, 107), 1);
         dueValue(x, 1, 100, 2, 3, 4, 5, 6, 7, 107);
-        for (int n = 8; n < 16; n++) due("alter n " + n, group(x, 0x30 + n, 1, 0), -6);
+        for (int n = 8; n < 16; n++) {
+            due("alter n " + n, group(x, 0x30 + n, 1, 0), -6);
+            due("alter n " + n + ", so many bytes", group(x, joined(new int[] {0x30 + n, 1}, repeated(1, n))), -6);
+            due("flaw()", x.flaw(), 0);
+        }
         due("alter, its byte missing", group(x, 0x37, 1), -6);
         due("alter, its key missing", group(x, 0x37), -6);
     }
@@ -388,6 +397,28 @@ public final class DiskBoundaryTest extends Stores {
         due("left", x.page(0, 8), 6);
         x.terms(0, 0);
         due("grow: one more than it was", grow(x, 0, 7) >= 11 ? 1 : 0, 1);
+        highKeysNotMore();
+    }
+
+    /** The same for the highest keys: PADDING comes by the lower ones. */
+    private static void highKeysNotMore() {
+        PackedPages x = new PackedPages();
+        x.terms(1, 16);
+        x.terms(2, 100);
+        for (int key = 230; key < 242; key++) putSmooth(x, key);
+        group(x, roughEntries(0, 10, 20, 30, 40));
+        x.compact();
+        x.terms(1, 1);
+        x.terms(2, 0);
+        x.terms(3, 32);
+        for (int key = 50; key <= 80; key += 10) putRough(x, key);
+        due("count(3)", x.count(3), 64);
+        x.terms(1, 16);
+        x.terms(0, 0);
+        int last = x.count(1) - 1;
+        due("above FULL", x.page(last, 3) > 56 ? 1 : 0, 1);
+        due("alter: as it was", x.alter(241, 0, 9), 0);
+        due("put: less", put(x, 241, 7, 7), 0);
     }
 
     /** With a padding of 60 FULL is 60: the same edit is logged at 60 and not at 61. */
@@ -1106,6 +1137,11 @@ public final class DiskBoundaryTest extends Stores {
         y.compact();
         due("FULL is 56", y.page(0, 3), 50);
         due("page(1, 3)", y.page(1, 3), 50);
+        PackedPages z = longestLog();
+        z.terms(0, 16);
+        due("they fit by filter 3 alone", z.compact(), 1);
+        due("page(0, 4)", z.page(0, 4), 3);
+        due("page(0, 2)", z.page(0, 2), 31);
     }
 
     private static void fencesThen() {
@@ -1194,7 +1230,22 @@ public final class DiskBoundaryTest extends Stores {
         dueDisk("behind recover()", x, cut);
         for (int k = 0; k < 661; k++) due("as it was, byte " + k, cut[k], before[k]);
         recoverNoBlock();
+        recoverTenBlocks();
         recoverCutOff();
+    }
+
+    private static void recoverTenBlocks() {
+        PackedPages x = tenPages();
+        for (int key = 3; key < 240; key += 24) put(x, key);
+        due("count(2)", x.count(2), 10);
+        x.fuse(1 + 650 + 21 + 1);
+        due("compact(), cut off behind MARK 1", x.compact(), -7);
+        int[] cut = disk(x);
+        due("recover()", x.recover(), 640 + 21 + 1);
+        due("count(2)", x.count(2), 0);
+        due("count(0)", x.count(0), 50);
+        for (int p = 0; p < 10; p++) dueBlock(x, p, 0, Arrays.copyOfRange(cut, 664 + 65 * p, 664 + 65 * p + 64));
+        for (int k = 0; k < 21; k++) due("directory(" + k + ")", x.directory(k), x.journal(652 + k));
     }
 
     /** A page that goes tells no BLOCK anew: the DIRECTORY alone is in the JOURNAL. */

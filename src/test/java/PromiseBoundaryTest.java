@@ -653,6 +653,13 @@ public final class PromiseBoundaryTest extends Stores {
         dueTape(x);
         due("eight", x.fetch(3), 8);
         dueTape(x, 1, 2, 3, 4, 5, 6, 7, 8);
+        PackedPages y = longestLog();
+        due("the last of the longest log", y.fetch(230), 0);
+        due("fetch(231)", y.fetch(231), -2);
+        PackedPages z = tenPages();
+        lay(z, 0x11, 0, 5);
+        due("would(0)", z.would(0), 1);
+        due("fetch(0), what would() does is not done", z.fetch(0), 8);
     }
 
     private static void whatRefusesFetch() {
@@ -763,6 +770,31 @@ public final class PromiseBoundaryTest extends Stores {
         due("compact()", x.compact(), 1);
         due("undo()", x.undo(), 5);
         dueDisk("behind undo(), the journal too", x, disk);
+        downTwice();
+    }
+
+    /** Undone back to where it was down, and recovered another time: what was learned then is what counts. */
+    private static void downTwice() {
+        PackedPages x = oneTryAnAlter();
+        x.terms(1, 16);
+        tryOnce(x);
+        x.fuse(0);
+        due("alter, cut off", tryOnce(x), -7);
+        dueCounts(x, 4, 2, 0, 0);
+        x.recover();
+        tryOnce(x);
+        dueCounts(x, 4, 3, 0, 0);
+        due("undo()", x.undo(), 2);
+        due("undo()", x.undo(), 6);
+        dueCounts(x, 4, 2, 0, 0);
+        due("recover()", x.recover(), 0);
+        dueCounts(x, 4, 2, 0, 0);
+        due("undo()", x.undo(), 6);
+        dueCounts(x, 4, 2, 0, 0);
+        due("undo()", x.undo(), 2);
+        dueCounts(x, 4, 1, 0, 0);
+        due("compact()", x.compact(), 1);
+        dueCounts(x, 4, 1, 0, 0);
     }
 
     private static void whatIsNotUndone() {
@@ -831,6 +863,7 @@ public final class PromiseBoundaryTest extends Stores {
         PackedPages y = new PackedPages();
         put(y, 0);
         due("value(0, 0), none", y.value(0, 0), 0);
+        due("value(230, 0), the last of the longest log", longestLog().value(230, 0), 0);
         due("value(0, 2), none", y.value(0, 2), -1);
     }
 
@@ -853,6 +886,7 @@ public final class PromiseBoundaryTest extends Stores {
         due("next(0)", x.next(0), 0);
         due("next(1)", x.next(1), 255);
         due("next(255)", x.next(255), 255);
+        for (int key = 200; key < 231; key++) due("next(" + key + "), the longest log", longestLog().next(key), key);
         PackedPages y = tenPages();
         for (int key = 0; key <= 234; key++) due("next(" + key + ")", y.next(key), (key + 5) / 6 * 6);
         y.erase(24);
@@ -890,6 +924,13 @@ public final class PromiseBoundaryTest extends Stores {
         }
         due("nothing is done", x.value(8, 0), 3);
         due("an empty page", new PackedPages().behind(0, 0, -1), 0);
+        PackedPages y = longestLog();
+        for (int j = 0; j <= 31; j++) {
+            due("behind(0, " + j + ", -1)", y.behind(0, j, -1), j);
+            due("behind(0, " + j + ", " + (199 + j) + ")", y.behind(0, j, 199 + j), j == 0 ? -1 : 0);
+            due("behind(0, " + j + ", " + (200 + j) + ")", y.behind(0, j, 200 + j), -1);
+        }
+        due("behind(0, 32, -1)", y.behind(0, 32, -1), -1);
     }
 
     private static void behindNone() {
@@ -910,12 +951,13 @@ public final class PromiseBoundaryTest extends Stores {
     }
 
     private static void dueWould(PackedPages x, int told, int bytes, int padding, int pages) {
-        int[] disk = disk(x), held = held(x), rest = rest(x);
+        int[] disk = disk(x), held = held(x), rest = rest(x), readings = readings(x);
         int status = x.status(), flaw = x.flaw();
         due("would(0)", x.would(0), told);
         due("would(1)", x.would(1), bytes);
         due("would(2)", x.would(2), padding);
         due("would(3)", x.would(3), pages);
+        dueSame("all that is read", readings(x), readings);
         dueDisk("behind would()", x, disk);
         dueSame("what is held", held(x), held);
         dueSame("all else", rest(x), rest);
@@ -940,6 +982,10 @@ public final class PromiseBoundaryTest extends Stores {
         dueWould(y, 4, 3 + 129 + 38, 0, 9);
         due("group()", y.group(), 4);
         due("written()", y.written(), 3 + 129 + 38);
+        for (PackedPages w : new PackedPages[] {padded(32), tenPagesNoRoom(), longestLog()}) {
+            lay(w, 0x20, w.next(0), 0x11, w.next(w.next(0) + 1), 1, 0x11, 254, 7, 0x11, 23, 9);
+            dueWould(w, w.would(0), w.would(1), w.would(2), w.would(3));
+        }
         PackedPages z = padded(30);
         z.terms(0, 16);
         z.terms(1, 1);
@@ -989,6 +1035,7 @@ public final class PromiseBoundaryTest extends Stores {
         duePage(tenPages(), 9, 9, 216, 4, 40, 0, 41, 0, 0, 21, 0);
         PackedPages y = tenPagesNoRoom();
         duePage(y, 0, 0, 0, 7, 61, 0, 41, 3, 21, 0, 1);
+        duePage(longestLog(), 0, 0, 0, 31, 62, 0, 0, 31, 62, 0, 1);
         PackedPages z = new PackedPages();
         put(z, 9, 1, 10, 2, 20, 3, 30, 4, 40);
         due("page(0, 4), not packed yet", z.page(0, 4), 0);
@@ -1032,6 +1079,8 @@ public final class PromiseBoundaryTest extends Stores {
         PackedPages y = tenPagesNoRoom();
         for (int filter = 0; filter < 4; filter++) due("more than there is room for: 61 and 1", y.packing(0, filter) > 58 ? 1 : 0, 1);
         due("packing(0, 0)", y.packing(0, 0), 62);
+        due("of the longest log", longestLog().packing(0, 0), 63);
+        due("of the longest log", longestLog().packing(0, 3), 6);
     }
 
     private static void dueEntry(PackedPages x, int j, int... want) {
@@ -1057,10 +1106,8 @@ public final class PromiseBoundaryTest extends Stores {
         for (int j : row(-1, 5, 64, Integer.MIN_VALUE, Integer.MAX_VALUE)) due("entry(0, " + j + ", 0)", x.entry(0, j, 0), -1);
         due("entry(1, 0, 0)", x.entry(1, 0, 0), -1);
         due("entry(-1, 0, 0)", x.entry(-1, 0, 0), -1);
-        PackedPages y = new PackedPages();
-        y.terms(0, 0);
-        for (int key = 0; key < 31; key++) due("put", put(y, key), 0);
-        due("entry(0, 30, 2), at the block's end", y.entry(0, 30, 2), 30);
+        PackedPages y = longestLog();
+        due("entry(0, 30, 2), at the block's end", y.entry(0, 30, 2), 230);
         due("entry(0, 30, 3)", y.entry(0, 30, 3), -1);
         due("entry(0, 31, 0)", y.entry(0, 31, 0), -1);
         due("page(0, 6)", y.page(0, 6), 31);
@@ -1112,6 +1159,7 @@ public final class PromiseBoundaryTest extends Stores {
         dueCounts(x, 0, 0, 1, 0);
         dueCounts(tenPages(), 0, 40, 10, 0);
         dueCounts(tenPagesNoRoom(), 0, 43, 10, 3);
+        dueCounts(longestLog(), 0, 31, 1, 31);
         PackedPages down = downStore();
         dueCounts(down, 0, -1, -1, -1, 0, 0, 0, 0, 0, 1, -1, 1, 2, 0);
         down.recover();

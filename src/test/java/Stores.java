@@ -1,7 +1,9 @@
 import java.io.IOException;
 import java.nio.file.Files;
 import java.nio.file.Path;
+import java.util.ArrayList;
 import java.util.Arrays;
+import java.util.List;
 
 /** What the tests of promises and of sentences share: answers that are due, tapes, and stores in some state. */
 abstract class Stores {
@@ -211,6 +213,15 @@ abstract class Stores {
 
     static int tryOnce(PackedPages x) { return x.alter(4, 0, x.value(4, 2) ^ 1); }
 
+    /** RESERVE 0; a log of 31 entries, as many as there can be: keys 200 .. 230 put without bytes. */
+    static PackedPages longestLog() {
+        PackedPages x = new PackedPages();
+        x.terms(0, 0);
+        for (int key = 200; key < 231; key++) due("put", put(x, key), 0);
+        due("page(0, 8)", x.page(0, 8), 0);
+        return x;
+    }
+
     /**
      * Page 0 with 12 smooth records (keys 0 .. 11: 120 plain, 12 bytes left), rough ones from 100 on in three pages;
      * two TRIES FAILED since, with a ROUND of 1 and this STRIDE; CALM is 2; ROUND is 16 then.
@@ -283,5 +294,23 @@ abstract class Stores {
         int[] all = new int[256 * 9];
         for (int key = 0; key < 256; key++) for (int k = 0; k < 9; k++) all[key * 9 + k] = x.value(key, k == 0 ? 0 : 1 + k);
         return all;
+    }
+
+    /** All that is read of the pages: what they are, their entries, what they were behind some of these. */
+    static int[] readings(PackedPages x) {
+        List<Integer> row = new ArrayList<>();
+        for (int i = 0; i < 10; i++) {
+            for (int what = 0; what < 10; what++) row.add(x.page(i, what));
+            for (int filter = 0; filter < 4; filter++) row.add(x.packing(i, filter));
+            for (int j = 0; j <= 32; j++) {
+                for (int what = 0; what < 12; what++) row.add(x.entry(i, j, what));
+                for (int key = -1; key < 256; key += 16) row.add(x.behind(i, j, key));
+            }
+        }
+        for (int key = 0; key < 256; key++) {
+            row.add(x.value(key, 1));
+            row.add(x.next(key));
+        }
+        return joined(row.stream().mapToInt(n -> n).toArray(), records(x));
     }
 }

@@ -412,7 +412,7 @@ public final class TermsBoundaryTest extends Stores {
         sentence("3 at least, 130 at most", TermsBoundaryTest::lengthOfALike);
         sentence("d 1 .. 127", TermsBoundaryTest::distanceOfALike);
         sentence("(both rows may have BYTES in common)", () -> duePacked(0, row(1, 2, 1, 2, 1, 2, 1), 1, 1, 2, 130, 2));
-        sentence("the longest is taken", () -> duePacked(0, row(1, 2, 3, 4, 9, 1, 2, 3, 8, 1, 2, 3, 4), 4, 1, 2, 3, 4, 9, 128, 5, 0, 8, 129, 9));
+        sentence("the longest is taken", TermsBoundaryTest::longestLike);
         sentence("of like long ones that of the least d", TermsBoundaryTest::leastDistance);
         sentence("it goes on behind these n", () -> duePacked(0, row(1, 2, 3, 1, 2, 3, 9, 2, 3, 9), 2, 1, 2, 3, 128, 3, 0, 9, 128, 3));
         sentence("A BYTE at which there is no LIKE is SINGLE.", () -> duePacked(0, row(1, 2, 1, 2, 3, 1), 5, 1, 2, 1, 2, 3, 1));
@@ -431,6 +431,30 @@ public final class TermsBoundaryTest extends Stores {
         duePacked(0, repeated(5, 133), 0, 5, 255, 1, 1, 5, 5);
         duePacked(0, repeated(5, 134), 0, 5, 255, 1, 128, 1);
         duePacked(0, repeated(5, 261), 0, 5, 255, 1, 255, 1);
+        PackedPages x = new PackedPages();
+        lay(x, repeated(5, 400));
+        x.pack(0);
+        for (int n = 131; n >= 4; n--) {
+            lay(x, repeated(5, n));
+            due("pack(0) of " + n + " behind longer ones", x.pack(0), 4);
+            dueTape(x, 0, 5, 125 + n - 1, 1);
+        }
+        lay(x, joined(roughRow(300), repeated(9, 100)));
+        due("a LIKE behind 301 SINGLE ones", x.pack(0), 3 + 301 + 2);
+        due("tape(304)", x.tape(304), 125 + 99);
+        due("tape(305)", x.tape(305), 1);
+    }
+
+    private static void longestLike() {
+        duePacked(0, row(1, 2, 3, 4, 9, 1, 2, 3, 8, 1, 2, 3, 4), 4, 1, 2, 3, 4, 9, 128, 5, 0, 8, 129, 9);
+        // the farthest of many that begin with the same byte
+        int[] many = new int[120];
+        for (int i = 0; i < 120; i += 2) {
+            many[i] = 1;
+            many[i + 1] = 100 + i / 2;
+        }
+        int[] ahead = row(1, 2, 3, 4);
+        duePacked(0, joined(ahead, many, ahead), joined(row(123), ahead, many, row(129, 124)));
     }
 
     private static int[] rising(int n) {
