@@ -191,6 +191,11 @@ public final class PromiseBoundaryTest extends Stores {
         }
         lay(x, 0, 7, 255, 1, 255, 1, 255, 1, 134, 1);
         due("400", x.unpack(0), 400);
+        int[] pairs = new int[400];
+        for (int i = 0; i < 200; i++) pairs[2 * i + 1] = i;
+        lay(x, pairs);
+        due("as many rows as there can be", x.unpack(0), 200);
+        for (int i = 0; i < 200; i++) due("tape(" + i + ")", x.tape(i), i);
     }
 
     private static void unpackFlaws() {
@@ -983,9 +988,27 @@ public final class PromiseBoundaryTest extends Stores {
         due("group()", y.group(), 4);
         due("written()", y.written(), 3 + 129 + 38);
         for (PackedPages w : new PackedPages[] {padded(32), tenPagesNoRoom(), longestLog()}) {
-            lay(w, 0x20, w.next(0), 0x11, w.next(w.next(0) + 1), 1, 0x11, 254, 7, 0x11, 23, 9);
-            dueWould(w, w.would(0), w.would(1), w.would(2), w.would(3));
+            lay(w, 0x20, 24 + w.next(0), 0x11, w.next(w.next(0) + 1), 1, 0x11, 254, 7, 0x11, 23, 9);
+            int[] readings = readings(w);
+            w.would(0);
+            dueSame("what is on the disk is read, not what would be", readings(w), readings);
+            lay(w, 0x20, w.next(0));
+            due("would(0)", w.would(0), w.page(0, 8) < 2 && w.count(1) == 10 ? -5 : 1);
+            dueSame("what is on the disk is read, not what would be", readings(w), readings);
         }
+        PackedPages v = tenPages();
+        due("put(75), logged in page 3", put(v, 75), 0);
+        due("put(25), logged in page 1", put(v, 25), 0);
+        lay(v, 0x20, 24, 0x20, 25, 0x20, 30, 0x20, 36, 0x20, 42);
+        int[] readings = readings(v);
+        due("would(3), page 1 would go", v.would(3), 9);
+        due("count(2)", v.count(2), 2);
+        dueSame("what is on the disk is read, not what would be", readings(v), readings);
+        due("fetch(24)", v.fetch(24), 8);
+        due("page(1, 9)", v.page(1, 9), 1);
+        lay(v, 0x20, 216, 0x20, 222, 0x20, 228, 0x20, 234, 0x18, 76, 1, 20, 3, 40, 5, 60, 7, 80);
+        due("would(3), page 9 would be another", v.would(3), 10);
+        due("count(2)", v.count(2), 2);
         PackedPages z = padded(30);
         z.terms(0, 16);
         z.terms(1, 1);
