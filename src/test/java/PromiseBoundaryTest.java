@@ -851,6 +851,7 @@ public final class PromiseBoundaryTest extends Stores {
         sentence("NONE (there is none; DOWN; others).", PromiseBoundaryTest::noNext);
         sentence("were only the first j ENTRIES of its LOG done (all, if j is as many): how many RECORDS (key NONE), how many BYTES the VALUE of a KEY has.", PromiseBoundaryTest::behindSome);
         sentence("NONE (no such PAGE, so many ENTRIES, RECORD in it; DOWN).", PromiseBoundaryTest::behindNone);
+        sentence("What the TAPE would do as a group() now with a FUSE of NONE", PromiseBoundaryTest::wouldWithoutFuse);
         sentence("what that would tell (what 0; not -3), how many BYTES would be WRITTEN (1; 0, if REFUSED), PADDING then (2), PAGES then (3).", PromiseBoundaryTest::would);
         sentence("NONE (others; DOWN: for all).", PromiseBoundaryTest::wouldNot);
     }
@@ -1018,6 +1019,18 @@ public final class PromiseBoundaryTest extends Stores {
         dueWould(z, -2, 0, 60, 4);
     }
 
+    private static void wouldWithoutFuse() {
+        PackedPages x = new PackedPages();
+        x.fuse(3);
+        lay(x, 0x10, 1);
+        due("would(0)", x.would(0), 1);
+        due("would(1)", x.would(1), 138);
+        due("count(9)", x.count(9), 3);
+        due("count(10)", x.count(10), 0);
+        due("group()", x.group(), -7);
+        due("written()", x.written(), 3);
+    }
+
     private static void wouldNot() {
         PackedPages x = new PackedPages();
         lay(x, 0x10, 1);
@@ -1172,6 +1185,8 @@ public final class PromiseBoundaryTest extends Stores {
 
     private static void counts() {
         sentence("0 RECORDS, 1 PAGES IN USE, 2 ENTRIES of all (0 .. 2: NONE, if DOWN)", PromiseBoundaryTest::countsOnDisk);
+        sentence("10 whether DOWN (1, 0), 11 how many can be undone, 12 BYTES of the TAPE", PromiseBoundaryTest::countsOfStanding);
+        sentence("20 .. 24 TERMS 0 .. 4", PromiseBoundaryTest::countsOfTerms);
         sentence("13 .. 18 how many calls were REFUSED by -1 .. -6, 19 how many told -7", PromiseBoundaryTest::countsOfRefusals);
         sentence("NONE for others.", PromiseBoundaryTest::countsOfOthers);
         sentence("was REFUSED by, or -7; 0 if neither, or ahead of any.", PromiseBoundaryTest::status);
@@ -1194,6 +1209,37 @@ public final class PromiseBoundaryTest extends Stores {
         PackedPages all = new PackedPages();
         while (key < 256 && put(all, key) >= 0) key++;
         due("count(0), all keys", all.count(0), 256);
+    }
+
+    private static void countsOfStanding() {
+        PackedPages x = new PackedPages();
+        dueCounts(x, 10, 0, 0, 0);
+        lay(x, roughRow(400));
+        dueCounts(x, 10, 0, 0, 400);
+        put(x, 1, 1);
+        x.fuse(0);
+        x.erase(1);
+        dueCounts(x, 10, 1, 2, 0);
+        x.recover();
+        dueCounts(x, 10, 0, 3, 0);
+        for (int i = 0; i < 20; i++) x.compact();
+        dueCounts(x, 10, 0, 16, 0);
+        for (int i = 16; i > 0; i--) {
+            due("count(11)", x.count(11), i);
+            x.undo();
+        }
+        dueCounts(x, 10, 0, 0, 0);
+    }
+
+    private static void countsOfTerms() {
+        PackedPages x = new PackedPages();
+        dueCounts(x, 20, 4, 8, 25, 8, 2);
+        int[] low = {0, 1, 0, 1, 1}, high = {16, 16, 100, 32, 4};
+        for (int what = 0; what < 5; what++) x.terms(what, low[what]);
+        dueCounts(x, 20, low);
+        for (int what = 0; what < 5; what++) x.terms(what, high[what]);
+        dueCounts(x, 20, high);
+        due("count(25)", x.count(25), -1);
     }
 
     private static void countsOfRefusals() {

@@ -204,6 +204,9 @@ public final class TermsBoundaryTest extends Stores {
         sentence("-1 a number that can't be", TermsBoundaryTest::byNumber);
         sentence("-2 there is no RECORD of that KEY", TermsBoundaryTest::byNoRecord);
         sentence("-3 the store is DOWN (or is not, for recover())", TermsBoundaryTest::byDown);
+        sentence("-4 it can't be by what stands", TermsBoundaryTest::byWhatStands);
+        sentence("-5 no room", TermsBoundaryTest::byNoRoom);
+        sentence("-6 a TAPE that can't be read", TermsBoundaryTest::byTape);
         sentence("The first of these in that order, but -3 ahead of -2.", TermsBoundaryTest::firstOfThese);
         sentence("What is REFUSED changes nothing but what is told of it (HELD, TAPE: as told).", TermsBoundaryTest::nothingChanges);
     }
@@ -246,6 +249,43 @@ public final class TermsBoundaryTest extends Stores {
         due("recover()", x.recover(), 0);
         due("recover()", x.recover(), -3);
         due("count(15)", x.count(15), 8);
+    }
+
+    private static void byWhatStands() {
+        PackedPages x = new PackedPages();
+        due("undo()", x.undo(), -4);
+        put(x, 1, 1);
+        due("put", put(x, 1, 1), -4);
+        due("grow", grow(x, 1, 1, 2, 3, 4, 5, 6, 7, 8), -4);
+        due("alter", x.alter(1, 0, 1), -4);
+        due("alter", x.alter(1, 1, 1), -4);
+        due("group", group(x, 0x11, 1, 1), -4);
+        due("status()", x.status(), -4);
+        due("count(16)", x.count(16), 6);
+    }
+
+    private static void byNoRoom() {
+        PackedPages x = tenPagesNoRoom();
+        due("put", putRough(x, 4), -5);
+        due("grow", grow(x, 2, 1), -5);
+        due("alter", x.alter(1, 0, rough(1)[0] ^ 1), -5);
+        due("erase", x.erase(0), -5);
+        due("group", group(x, 0x20, 0), -5);
+        due("compact", x.compact(), -5);
+        lay(x, roughRow(397));
+        due("pack", x.pack(0), -5);
+        due("status()", x.status(), -5);
+        due("count(17)", x.count(17), 7);
+    }
+
+    private static void byTape() {
+        PackedPages x = new PackedPages();
+        due("group, empty", x.group(), -6);
+        due("group", group(x, 0x50), -6);
+        lay(x, 128);
+        due("unpack", x.unpack(0), -6);
+        due("status()", x.status(), -6);
+        due("count(18)", x.count(18), 3);
     }
 
     private static void firstOfThese() {
@@ -363,6 +403,7 @@ public final class TermsBoundaryTest extends Stores {
     // ---- II
 
     private static void filters() {
+        sentence("II. FILTERS 0 .. 3 of a row of BYTES", TermsBoundaryTest::endsOfFilters);
         sentence("modulo 256 (0 stands for what is ahead of the first)", TermsBoundaryTest::wrapAround);
         sentence("0 the BYTE; 1 the BYTE less the one ahead; 2 the BYTE and the one ahead by exclusive or; 3 the BYTE less the one two ahead",
                 TermsBoundaryTest::eachFilter);
@@ -380,6 +421,25 @@ public final class TermsBoundaryTest extends Stores {
     }
 
     private static int[] row(int... bytes) { return bytes; }
+
+    private static void endsOfFilters() {
+        PackedPages x = new PackedPages();
+        put(x, 1, 1);
+        for (int filter = 0; filter < 4; filter++) {
+            lay(x, 1, 2);
+            due("pack(" + filter + ")", x.pack(filter), 3);
+            due("unpack(" + filter + ")", x.unpack(filter), 2);
+            due("packing(0, " + filter + ")", x.packing(0, filter), 4);
+        }
+        for (int filter : row(-2, 4, 255, Integer.MIN_VALUE, Integer.MAX_VALUE)) {
+            due("pack(" + filter + ")", x.pack(filter), -1);
+            due("unpack(" + filter + ")", x.unpack(filter), -1);
+            due("packing(0, " + filter + ")", x.packing(0, filter), -1);
+        }
+        due("pack(-1), NONE", x.pack(-1), 3);
+        due("unpack(-1)", x.unpack(-1), -1);
+        due("packing(0, -1)", x.packing(0, -1), -1);
+    }
 
     private static void wrapAround() {
         duePacked(1, row(255, 0, 254, 1), 3, 255, 1, 254, 3);
