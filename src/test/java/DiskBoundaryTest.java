@@ -618,6 +618,33 @@ public final class DiskBoundaryTest extends Stores {
         }
         due("count(4)", z.count(4), 5);
         due("count(5)", z.count(5), 2);
+        halvesOfHalvesOfHalves();
+    }
+
+    /** A value that repeats its key and length, which packs well beside others of its kind. */
+    private static int[] alike(int key, int n) {
+        int[] row = new int[n];
+        for (int i = 0; i < n; i++) row[i] = i % 2 == 0 ? key : n;
+        return row;
+    }
+
+    /** FULL 56: 24 records come to be 130; 12 of them 72, of these 6 are 60; the other 12 are 58. */
+    private static void halvesOfHalvesOfHalves() {
+        List<int[]> entries = new ArrayList<>();
+        for (int key = 0; key < 5; key++) entries.add(joined(new int[] {0x18, key}, alike(key, 8)));
+        for (int key = 10; key < 16; key++) entries.add(new int[] {0x10, key});
+        for (int key = 20; key < 32; key++) entries.add(joined(new int[] {key < 25 ? 0x14 : 0x12, key}, alike(key, key < 25 ? 4 : 2)));
+        PackedPages x = padded(32, joined(entries.toArray(new int[0][])));
+        due("count(3)", x.count(3), 64);
+        due("put(5)", put(x, 5, alike(5, 8)), 14);
+        int[] sizes = {3, 3, 6, 6, 6}, fences = {0, 3, 10, 20, 26};
+        for (int i = 0; i < 5; i++) {
+            due("page(" + i + ", 2)", x.page(i, 2), sizes[i]);
+            due("page(" + i + ", 1)", x.page(i, 1), fences[i]);
+            due("page(" + i + ", 0)", x.page(i, 0), i == 0 ? 0 : 3 + i);
+        }
+        dueCounts(x, 3, 64, 5, 0, 2);
+        for (int key = 20; key < 32; key++) dueValue(x, key, alike(key, key < 25 ? 4 : 2));
     }
 
     /** 6 records without bytes packed in 6 bytes and 5 rough ones in the log; RESERVE 16: these five do not fit. */

@@ -227,10 +227,19 @@ abstract class Stores {
      * two TRIES FAILED since, with a ROUND of 1 and this STRIDE; CALM is 2; ROUND is 16 then.
      */
     static PackedPages padded(int stride) {
+        int[][] smooth = new int[12][];
+        for (int key = 0; key < 12; key++) smooth[key] = joined(new int[] {0x18, key}, repeated(7, 8));
+        PackedPages x = padded(stride, joined(smooth));
+        due("page(0, 8)", x.page(0, 8), 12);
+        return x;
+    }
+
+    /** The same with what these entries put, 120 plain and keys below 100, on page 0. */
+    static PackedPages padded(int stride, int[] entries) {
         PackedPages x = new PackedPages();
         x.terms(1, 16);
         x.terms(2, 100);
-        for (int key = 0; key < 12; key++) putSmooth(x, key);
+        due("group()", group(x, entries) > 0 ? 1 : 0, 1);
         due("group()", group(x, roughEntries(100, 110, 120, 130, 140)), 5);
         due("compact()", x.compact(), 2);
         due("page(0, 3)", x.page(0, 3), 120);
@@ -244,7 +253,6 @@ abstract class Stores {
         due("put(170)", putRough(x, 170), 0);
         due("put(180)", putRough(x, 180), 11);
         dueCounts(x, 3, 2 * stride, 0, 0, 2);
-        due("page(0, 8)", x.page(0, 8), 12);
         x.terms(1, 16);
         return x;
     }
